@@ -508,7 +508,11 @@ public final class PeatRailway {
         return slot == 0 ? firstSlot : secondSlot;
     }
 
-    /** All that undo() restores. Places beyond the counts hold leftovers that nothing reads. */
+    /**
+     * All that undo() restores. Places beyond the counts hold leftovers that nothing reads. The counts stay
+     * within the rows, and place and occupant within the counts: only addBlock, addTrain, move and copyFrom
+     * set them, and who passes a block or a train here has looked at it before.
+     */
     private static final class State {
         private static final int NO_BEND = 0;
         private static final int LOOSE_DEPTH = 7;
@@ -526,7 +530,7 @@ public final class PeatRailway {
         final int[] bendLimit = new int[MOST_BLOCKS];
         final boolean[] clear = new boolean[MOST_BLOCKS];
         final int[] lost = new int[MOST_BLOCKS];
-        /** The train in each block, the other direction of place. */
+        /** The train in each block or NONE, the other direction of place. */
         final int[] occupant = new int[MOST_BLOCKS];
 
         final int[] place = new int[MOST_TRAINS];
@@ -546,7 +550,9 @@ public final class PeatRailway {
             System.arraycopy(other.length, 0, length, 0, MOST_BLOCKS);
             System.arraycopy(other.depth, 0, depth, 0, MOST_BLOCKS);
             System.arraycopy(other.bendLimit, 0, bendLimit, 0, MOST_BLOCKS);
-            System.arraycopy(other.clear, 0, clear, 0, MOST_BLOCKS);
+            for (int block = 0; block < MOST_BLOCKS; block++) {
+                clear[block] = other.clear[block];
+            }
             System.arraycopy(other.lost, 0, lost, 0, MOST_BLOCKS);
             System.arraycopy(other.occupant, 0, occupant, 0, MOST_BLOCKS);
             System.arraycopy(other.place, 0, place, 0, MOST_TRAINS);
@@ -602,7 +608,7 @@ public final class PeatRailway {
         }
 
         int speedLimit(int block) {
-            return bends(block) ? bendLimit[block] : TOP_SPEED;
+            return bendLimit[block] == NO_BEND ? TOP_SPEED : bendLimit[block];
         }
 
         int speedNow(int train) {

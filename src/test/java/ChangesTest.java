@@ -29,6 +29,7 @@ public final class ChangesTest {
         Check.refused("advance(-1)", x, Check.ARGUMENT, () -> x.advance(-1));
         Check.refused("advance(the least int)", x, Check.ARGUMENT, () -> x.advance(Integer.MIN_VALUE));
         Check.refused("advance(the greatest int)", x, Check.ARGUMENT, () -> x.advance(Integer.MAX_VALUE));
+        Check.equal("none enters within a block", Check.ring("railway;block 9 0;block 1 0;train 0 1 1;pull 1").advance(8), 0);
         Check.equal("two enter in one call", Check.ring("railway;block 1 0;block 1 0;block 1 0;pull 1;"
                 + "train 1 1 1;train 0 1 1;pull 2").advance(5), 2);
         PeatRailway y = Check.ring("railway;ticks 99;ticks 80");
@@ -63,6 +64,10 @@ public final class ChangesTest {
         Check.equal("pull(1)", y.pull(1), 1);
         Check.equal("pull(0)", y.pull(0), 2);
         Check.equal("pull(2)", y.pull(2), 3);
+        PeatRailway ten = Check.ring("railway" + ";block 5 0".repeat(10));
+        for (int block = 0; block < 10; block++) {
+            Check.equal("pull(" + block + ") of ten", ten.pull(block), block + 1);
+        }
         PeatRailway none = Check.ring("railway");
         Check.refused("pull(0) without blocks", none, Check.INDEX, () -> none.pull(0));
     }

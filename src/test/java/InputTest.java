@@ -110,6 +110,10 @@ public final class InputTest {
         Check.equal("waitsOf(0)", x.waitsOf(0), 0);
         Check.equal("wagonDifference()", x.wagonDifference(), 0);
         Check.equal("isClear(1)", x.isClear(1), false);
+        Check.load(x, "railway;block 2 8;block 2 0;pull 1;pull 0");
+        Check.load(x, "railway;block 2 8");
+        Check.equal("isClear(0)", x.isClear(0), false);
+        Check.equal("pull(0), the only one", x.pull(0), 1);
     }
 
     private static void refusedLoads() {
@@ -146,6 +150,9 @@ public final class InputTest {
         Check.error("rail", 1, 0);
         Check.error("railways", 1, 0);
         Check.error(" tram", 1, 1);
+        Check.error("tailway", 1, 0);
+        Check.error("railwax", 1, 0);
+        Check.error("railway;clock 5 2", 1, 8);
         Check.error(";railway", 1, 0);
         Check.error("7", 1, 0);
         Check.error("Railway", 1, 0);

@@ -161,6 +161,9 @@ public final class TrainsTest {
         PeatRailway y = Check.ring("railway;block 1 0;block 1 0;train 0 1 1;pull 1;ticks 1;pull 0;ticks 1;pull 1;ticks 1");
         Check.equal("passages(0, 0) twice", y.passages(0, 0), 2);
         Check.equal("differentPassages() counts each pair once", y.differentPassages(), 2);
+        PeatRailway ten = Check.ring("railway;block 1 0;block 1 0" + ";block 9 0".repeat(8)
+                + ";train 1 1 1;train 0 1 1;pull 2;ticks 1;pull 1;ticks 1");
+        Check.equal("differentPassages() in a ring of ten", ten.differentPassages(), 2);
         Check.equal("differentPassages() of none", Check.ring("railway").differentPassages(), 0);
         // blocks that come later stand behind the last one from then on
         PeatRailway z = Check.ring("railway;block 1 0;block 1 0;train 1 1 1;pull 0;ticks 1;pull 1;ticks 1;block 3 0;pull 2;ticks 1");
@@ -178,6 +181,9 @@ public final class TrainsTest {
         Check.equal("clearBlocksAhead(0)", x.clearBlocksAhead(0), 2);
         Check.equal("clearBlocksAhead(1)", x.clearBlocksAhead(1), 0);
         Check.equal("clearBlocksAhead(2) before a lost wagon", x.clearBlocksAhead(2), 0);
+        PeatRailway behind = Check.ring("railway;block 5 0;block 5 0;block 5 0;train 1 1 1;train 0 1 1");
+        Check.equal("trainAhead(0), the other just behind it", behind.trainAhead(0), 1);
+        Check.equal("trainAhead(1), the other just before it", behind.trainAhead(1), 0);
         PeatRailway alone = Check.ring("railway;block 5 0;block 5 0;block 5 0;train 1 1 1");
         Check.equal("trainAhead(0) alone", alone.trainAhead(0), PeatRailway.NONE);
         Check.equal("clearBlocksAhead(0) alone", alone.clearBlocksAhead(0), 2);
