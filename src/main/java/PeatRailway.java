@@ -1016,7 +1016,7 @@ public final class PeatRailway {
         }
     }
 
-    /** The output buffer; the longest ring takes 30 bytes, as no block holds two lost wagons. */
+    /** The output buffer; the longest ring takes 29 bytes: no block holds two lost wagons, and that of a train none. */
     private static final class Output {
         private static final int ROOM = 64;
 

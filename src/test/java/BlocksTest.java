@@ -2,9 +2,6 @@
 public final class BlocksTest {
     public static void main(String[] args) {
         tickAndCount();
-        missingBlocks(new PeatRailway());
-        missingBlocks(Check.ring("railway"));
-        missingBlocks(Check.ring("railway" + ";block 1 0".repeat(10)));
         plainQuestions();
         departures();
         obstacles();
@@ -22,21 +19,6 @@ public final class BlocksTest {
         Check.equal("tick() at the end", x.tick(), 9999);
         Check.equal("blockCount() of ten", Check.ring("railway" + ";block 1 0".repeat(10)).blockCount(), 10);
         Check.equal("tick() by text", Check.ring("railway;ticks 99;ticks 1").tick(), 100);
-    }
-
-    private static void missingBlocks(PeatRailway x) {
-        int[] missing = {-1, x.blockCount(), x.blockCount() + 1, 10, Integer.MIN_VALUE, Integer.MAX_VALUE};
-        for (int block : missing) {
-            Check.refused("lengthOf(" + block + ")", x, Check.INDEX, () -> x.lengthOf(block));
-            Check.refused("depthOf(" + block + ")", x, Check.INDEX, () -> x.depthOf(block));
-            Check.refused("isBend(" + block + ")", x, Check.INDEX, () -> x.isBend(block));
-            Check.refused("limitOf(" + block + ")", x, Check.INDEX, () -> x.limitOf(block));
-            Check.refused("isClear(" + block + ")", x, Check.INDEX, () -> x.isClear(block));
-            Check.refused("trainIn(" + block + ")", x, Check.INDEX, () -> x.trainIn(block));
-            Check.refused("lostIn(" + block + ")", x, Check.INDEX, () -> x.lostIn(block));
-            Check.refused("departuresFrom(" + block + ")", x, Check.INDEX, () -> x.departuresFrom(block));
-            Check.refused("obstacle(" + block + ")", x, Check.INDEX, () -> x.obstacle(block));
-        }
     }
 
     private static void plainQuestions() {

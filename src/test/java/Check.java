@@ -1,9 +1,12 @@
 import java.nio.charset.StandardCharsets;
+import java.util.function.IntSupplier;
 
 /** What the tests share: counting wrong answers, loading texts, and looking at a whole object. */
 final class Check {
     private static int wrong = 0;
     private static int checks = 0;
+    /** Stands before the name of each answer that is wrong: the sentence of the document that is tested. */
+    static String under = "";
 
     private Check() {
     }
@@ -34,17 +37,11 @@ final class Check {
     private static void complain(String what, String got, String due) {
         wrong++;
         if (wrong <= 50) {
-            System.out.println(what + " answered " + got + ", due is " + due);
+            System.out.println(under + what + " answered " + got + ", due is " + due);
         }
     }
 
-    /** The call must throw just this exception and alter nothing that can be seen. */
-    static void refused(String what, PeatRailway x, Class<?> due, Runnable call) {
-        String before = look(x);
-        raises(what, due, call);
-        same(what + ": what stands after it", look(x), before);
-    }
-
+    /** The call must throw just this exception. */
     static void raises(String what, Class<?> due, Runnable call) {
         String got = "nothing";
         try {
@@ -53,6 +50,15 @@ final class Check {
             got = e.getClass().getName();
         }
         same(what + " throws", got, due.getName());
+    }
+
+    /** What the call answers, or the name of the exception that it throws. */
+    static String answer(IntSupplier call) {
+        try {
+            return Integer.toString(call.getAsInt());
+        } catch (RuntimeException e) {
+            return e.getClass().getName();
+        }
     }
 
     static final Class<?> INDEX = IndexOutOfBoundsException.class;

@@ -44,7 +44,7 @@ public final class InputTest {
         for (int part = 1; part <= 30; part++) {
             Check.equal("append as number " + part, x.append(0, 0, 0, 0, 0), 20 * part);
         }
-        Check.refused("the 31st append", x, Check.STATE, () -> x.append(1, 2, 3, 4, 5));
+        Check.raises("the 31st append", Check.STATE, () -> x.append(1, 2, 3, 4, 5));
         Check.raises("load(601)", Check.INDEX, () -> x.load(601));
         Check.raises("load(600)", Check.ARGUMENT, () -> x.load(600));
         Check.equal("append after it", x.append(0, 0, 0, 0, 0), 20);
@@ -70,10 +70,10 @@ public final class InputTest {
         Check.equal("errorKind()", x.errorKind(), 1);
         Check.equal("errorOffset()", x.errorOffset(), 0);
         Check.append(x, "railway");
-        Check.refused("load(-1)", x, Check.INDEX, () -> x.load(-1));
-        Check.refused("load of the least int", x, Check.INDEX, () -> x.load(Integer.MIN_VALUE));
-        Check.refused("load(21)", x, Check.INDEX, () -> x.load(21));
-        Check.refused("load of the greatest int", x, Check.INDEX, () -> x.load(Integer.MAX_VALUE));
+        Check.raises("load(-1)", Check.INDEX, () -> x.load(-1));
+        Check.raises("load of the least int", Check.INDEX, () -> x.load(Integer.MIN_VALUE));
+        Check.raises("load(21)", Check.INDEX, () -> x.load(21));
+        Check.raises("load of the greatest int", Check.INDEX, () -> x.load(Integer.MAX_VALUE));
         Check.equal("errorKind() is still told", x.errorKind(), 1);
         Check.equal("load(20), the buffer being as it was", x.load(20), 0);
         Check.equal("errorKind() after a right text", x.errorKind(), 0);

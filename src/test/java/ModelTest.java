@@ -21,13 +21,17 @@ public final class ModelTest {
         "repair", "removeWagons", "removeWagons", "addWagons", "setTopSpeed", "restore", "undo", "undo", "save",
         "writeRing", "writeTrain", "outputByte", "outputByte",
     };
+    /** A run ends once it has so many; a text that is loaded last takes some sixty more, and 512 are promised. */
+    private static final int FEWEST_CALLS = 440;
     private static final Map<String, Method> METHODS = new TreeMap<>();
     private static final Map<String, Integer> ANSWERS = new TreeMap<>();
 
     private final Random random;
     private final PeatRailway x = new PeatRailway();
     private final Model model = new Model();
-    private final List<String> told = new ArrayList<>();
+    private final List<String> last = new ArrayList<>();
+    /** The calls that were made on the object. */
+    private int calls = 0;
 
     private ModelTest(long seed) {
         random = new Random(seed);
@@ -65,7 +69,7 @@ public final class ModelTest {
         if (random.nextInt(20) == 0 && !late()) {
             return false;
         }
-        for (int call = 0; call < 400; call++) {
+        while (calls < FEWEST_CALLS) {
             boolean good;
             int sort = random.nextInt(100);
             if (sort < 3) {
@@ -131,12 +135,13 @@ public final class ModelTest {
     }
 
     private boolean compare(String call, String what, String got, String due) {
-        told.add(what + " " + due);
+        calls++;
+        last.add(what + " " + due);
         ANSWERS.merge(due.startsWith("throws ") ? call + due.substring(6) : call, 1, Integer::sum);
         Check.same(what, got, due);
         if (!got.equals(due)) {
-            told.subList(0, Math.max(told.size() - 40, 0)).clear();
-            told.forEach(System.out::println);
+            last.subList(0, Math.max(last.size() - 40, 0)).clear();
+            last.forEach(System.out::println);
         }
         return got.equals(due);
     }

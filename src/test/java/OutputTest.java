@@ -40,7 +40,7 @@ public final class OutputTest {
         x.writeTrain(1);
         Check.same("the output", Check.output(x), "3:20/20 10w");
         for (int train : new int[] {-1, 2, 5, Integer.MIN_VALUE, Integer.MAX_VALUE}) {
-            Check.refused("writeTrain(" + train + ")", x, Check.INDEX, () -> x.writeTrain(train));
+            Check.raises("writeTrain(" + train + ")", Check.INDEX, () -> x.writeTrain(train));
         }
         x.writeRing();
         Check.same("the ring replaces it", Check.output(x), "-_-_-_-1-_-_-_-_-_-0");
@@ -57,10 +57,10 @@ public final class OutputTest {
         Check.equal("outputByte(3)", x.outputByte(3), 47);
         Check.equal("outputByte(5)", x.outputByte(5), 32);
         Check.equal("outputByte(7)", x.outputByte(7), 119);
-        Check.refused("outputByte(8)", x, Check.INDEX, () -> x.outputByte(8));
-        Check.refused("outputByte(-1)", x, Check.INDEX, () -> x.outputByte(-1));
-        Check.refused("outputByte(the least int)", x, Check.INDEX, () -> x.outputByte(Integer.MIN_VALUE));
-        Check.refused("outputByte(the greatest int)", x, Check.INDEX, () -> x.outputByte(Integer.MAX_VALUE));
+        Check.raises("outputByte(8)", Check.INDEX, () -> x.outputByte(8));
+        Check.raises("outputByte(-1)", Check.INDEX, () -> x.outputByte(-1));
+        Check.raises("outputByte(the least int)", Check.INDEX, () -> x.outputByte(Integer.MIN_VALUE));
+        Check.raises("outputByte(the greatest int)", Check.INDEX, () -> x.outputByte(Integer.MAX_VALUE));
         x.pull(2);
         x.writeRing();
         Check.equal("outputByte(0), at danger", x.outputByte(0), 45);

@@ -8,9 +8,12 @@ public final class RoomTest {
     public static void main(String[] args) {
         // the first round loads what the machine itself needs
         round(new PeatRailway());
-        PeatRailway x = new PeatRailway();
+        PeatRailway[] ready = new PeatRailway[100];
+        for (int index = 0; index < ready.length; index++) {
+            ready[index] = new PeatRailway();
+        }
         long before = made();
-        for (int times = 0; times < 100; times++) {
+        for (PeatRailway x : ready) {
             round(x);
         }
         long calls = made() - before;
