@@ -115,9 +115,12 @@ public final class EdgesHistoryTest {
             x.advance(1);
         }
         Check.equal("undo() of ten", x.undo(), 9);
-        x.advance(1);
-        x.advance(1);
-        Check.equal("undo() of eleven", x.undo(), 9);
+        PeatRailway y = Check.ring(Edge.NO_BLOCKS);
+        for (int change = 1; change <= 11; change++) {
+            y.advance(1);
+        }
+        Check.equal("undo() of eleven", y.undo(), 9);
+        Check.equal("undo() of the tenth", y.undo(), 8);
     }
 
     private static void everyChangeIsRecorded() {
